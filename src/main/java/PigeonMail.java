@@ -700,7 +700,7 @@ public final class PigeonMail {
 
     /** What is asked with nothing changed: all of it is tried in a hall of its own. */
     private static final class Outlook {
-        // No hole is in this row: a clerk there is not there at all.
+        // No hole is in this row, so a clerk there answers nothing, as if it had not come.
         private static final int AWAY = ROWS;
         private static final int DOING = 10000;
         private static final long FACTOR = 6364136223846793005L, STEP = 1442695040888963407L;
@@ -735,8 +735,8 @@ public final class PigeonMail {
             then.moveTo(letter, hole);
             for (int d = 0; d <= FAR; d++) {
                 int fate = then.fateOf(letter);
-                if (fate == HATCHED || fate == FLOWN) {
-                    return d;
+                if (fate != LIES) {
+                    return fate == ANSWERED ? FAR + 1 : d;
                 }
                 then.passDay();
             }

@@ -279,5 +279,16 @@ public final class ActsTest {
         due("14: the first ones are forgotten", x.letter(0, 0), 0);
         x.day();
         due("14: acts anew", x.about(9), 1);
+        PigeonMail y = Check.roomOf("M0");
+        int[] grain = new int[34];
+        for (int i = 0; i < 33; i++) {
+            grain[i + 1] = grain[i] + i % 3 + 1;
+            due("14: fed", y.feed(i % 3 + 1), grain[i + 1]);
+        }
+        for (int left = 13; left >= 0; left--) {
+            y.undo();
+            due("14: undone one by one", y.about(3), grain[33 - 14 + left]);
+        }
+        due("14: no more", y.undo(), PigeonMail.LATE);
     }
 }

@@ -248,6 +248,8 @@ public final class DaysTest {
         share("M9La10Lb10C01C02", 1, 3, 2);
         share("M9La10Lb10C01C02C11", 1, 3, 2);
         share("M9La10Lb10C01C02C11", 2, 0, 1);
+        // A clerk that does harm: found by search, agreed on by the model.
+        share("M9La93Le93Lj33Li11Li11Lj40C11C03C12", 0, -1, 3);
         // Those that fly count as those that hatch do.
         share("M0La10C01", 0, 1, 1);
         PigeonMail x = Check.roomOf("M9La10C01");

@@ -148,9 +148,9 @@ public final class RoomTest {
     }
 
     private static void roomStaysOrGoes() {
-        PigeonMail x = Check.roomOf("M4La20C01");
+        PigeonMail x = Check.roomOf("M4La90Lb10Lc20C01");
         x.send(0, 1);
-        x.put(0, 5);
+        x.put(2, 5);
         x.day();
         x.feed(2);
         x.tell(3, 1);
@@ -161,17 +161,19 @@ public final class RoomTest {
         due("5: LATE", x.room(), PigeonMail.LATE);
         due("5: LATE changes nothing: acts", x.about(9), 4);
         due("5: LATE changes nothing: slots", x.again(0), 1);
-        Check.write(x, "M4La20C01");
+        due("5: it has waited", x.letter(0, 4), 1);
+        Check.write(x, "M4La90Lb10Lc20C01");
         x.day();
-        due("5: made anew", x.room(), 11);
-        due("5: made anew: the text stays", x.about(11), 9);
+        due("5: made anew", x.room(), 31);
+        due("5: made anew: the text stays", x.about(11), 17);
         due("5: made anew: no acts", x.about(9), 0);
         due("5: made anew: nothing to undo", x.undo(), PigeonMail.LATE);
         due("5: made anew: the day", x.about(2), 0);
         due("5: made anew: grain", x.about(3), 4);
-        due("5: made anew: it lies", x.about(4), 1);
-        due("5: made anew: its hole", x.letter(0, 0), 0);
+        due("5: made anew: they lie", x.about(4), 7);
+        due("5: made anew: its hole", x.letter(2, 0), 2);
         due("5: made anew: not waited", x.letter(0, 4), 0);
+        due("5: made anew: not waited", x.letter(1, 4), 0);
         due("5: made anew: clerk's row", x.clerk(0, 0), 0);
         due("5: made anew: slot 0 is gone", x.again(0), PigeonMail.LATE);
         due("5: made anew: slot 1 is gone", x.again(1), PigeonMail.LATE);

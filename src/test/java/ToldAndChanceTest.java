@@ -85,8 +85,13 @@ public final class ToldAndChanceTest {
         // To move for 1 letter is worth nothing; for 2 it is.
         rests("M9Li90C01C11", 0, 1, 3, 1);
         rests("M9Li90Lj90C01C11", 0, 1, 3, 2);
-        // Three days, no more: six letters, and a clerk answers three of them.
         rests("M9Le90Lf90Lg90Lh90Li90Lj90C01C01", 0, 1, 3, 11);
+        // Three days, no fewer: in two the clerk would answer but two of three letters below.
+        rests("M9La90La90Lb90Lf90Li90C21C11", 0, 1, 2, 1);
+        // Three days, no more: what the cuckoo puts out would be answered on the fourth.
+        rests("M9La21Li50Li31C12C01", 0, 1, 1, 20);
+        // No rest at all: found by search, agreed on by the model.
+        rests("M9Li30Lb10Le21Li11Le33C03C13", 0, 1, 0, PigeonMail.NONE);
         // The third clerk is at work, too.
         rests("M9La10C01C21C21", 1, 2, 1, 22);
         PigeonMail x = Check.roomOf("M9La10C01C01");
@@ -195,6 +200,7 @@ public final class ToldAndChanceTest {
         years("M1La10", 4, DAY, 15, DAY, 15);
         years("M0La10", 0, DAY, DAY);
         years("M0La10", 1, 15, DAY);
+        years("M0La10", 1, 15, DAY, DAY);
         years("M9La20Lb10", 3, DAY, DAY);
         // Letter 0 is put to the clerk, or the clerk comes to it.
         for (int hole = 0; hole < 12; hole++) {
