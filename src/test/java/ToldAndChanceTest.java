@@ -3,6 +3,7 @@ import java.util.Arrays;
 /** Promises 22 to 30: told, rests, hawks, years, slots. */
 public final class ToldAndChanceTest {
     private static final Check CHECK = new Check("ToldAndChanceTest");
+    private static final int DAY = Seeds.DAY;
 
     public static void main(String[] args) {
         tells();
@@ -157,27 +158,9 @@ public final class ToldAndChanceTest {
         due("28: the seed behind 31", x.seed(0), 3965132133515300738L);
     }
 
-    /** The least seed, from 0 on, by which just these come, one after the other. */
-    private static long seedFor(int... fates) {
-        for (long v = 0;; v++) {
-            long x = v;
-            boolean fits = true;
-            for (int i = 0; i < fates.length && fits; i++) {
-                x = x * 6364136223846793005L + 1442695040888963407L;
-                int fate = (int) ((x >>> 33) % 24);
-                fits = fates[i] == DAY ? fate >= 16 : fate == fates[i];
-            }
-            if (fits) {
-                return v;
-            }
-        }
-    }
-
-    private static final int DAY = 99;
-
     private static void years(String text, int want, int... fates) {
         PigeonMail x = Check.roomOf(text);
-        x.seed(seedFor(fates));
+        x.seed(Seeds.forComing(fates));
         String call = "years(" + fates.length + ") of " + text + " by " + Arrays.toString(fates);
         due("28: " + call, x.years(fates.length), want);
         due("28: nothing changed: letters", x.about(5) + x.about(6) + x.about(7), 0);
