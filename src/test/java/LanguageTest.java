@@ -7,7 +7,11 @@ import java.nio.file.Files;
 import java.nio.file.Path;
 import java.util.ArrayList;
 import java.util.Collections;
+import java.util.HashMap;
+import java.util.HashSet;
 import java.util.List;
+import java.util.Map;
+import java.util.Set;
 import java.util.regex.Matcher;
 import java.util.regex.Pattern;
 
@@ -23,6 +27,10 @@ public final class LanguageTest {
         "int share(int,boolean)", "int tell(int,int)", "int undo()", "int untell()", "int wipe()", "int write(int)",
         "int years(int)", "long seed(long)"};
 
+    private static final String[] CONSTANTS = {"BAD = -2", "FULL = -4", "LATE = -3", "NONE = -9", "UNKNOWN = -1"};
+
+    private static final int DEEPEST = 8;
+
     private static final String[] WORDS_RULED_OUT = {
         "throw", "throws", "try", "catch", "finally", "synchronized", "assert", "import", "package", "protected",
         "volatile", "transient", "native", "strictfp", "System\\.(?!arraycopy)\\w+", "Math\\.\\w*Exact",
@@ -30,6 +38,7 @@ public final class LanguageTest {
 
     public static void main(String[] args) throws Exception {
         face();
+        constants();
         members();
         for (Class<?> inner : PigeonMail.class.getDeclaredClasses()) {
             inner(inner);
@@ -58,6 +67,22 @@ public final class LanguageTest {
         CHECK.due("a public one without arguments", makers[0].getModifiers() + makers[0].getParameterCount(),
                 Modifier.PUBLIC);
         CHECK.due("public and final", PigeonMail.class.getModifiers(), Modifier.PUBLIC | Modifier.FINAL);
+        CHECK.due("public classes inside", PigeonMail.class.getClasses().length, 0);
+        CHECK.due("no face but its own", PigeonMail.class.getInterfaces().length, 0);
+    }
+
+    private static void constants() throws Exception {
+        List<String> seen = new ArrayList<>();
+        for (Field f : PigeonMail.class.getFields()) {
+            CHECK.due(f.getName() + " is an int", f.getType() == int.class ? 1 : 0, 1);
+            CHECK.due(f.getName() + " is a constant", f.getModifiers(),
+                    Modifier.PUBLIC | Modifier.STATIC | Modifier.FINAL);
+            seen.add(f.getName() + " = " + f.get(null));
+        }
+        Collections.sort(seen);
+        if (!seen.equals(List.of(CONSTANTS))) {
+            CHECK.fail("the constants are " + seen);
+        }
     }
 
     private static void members() {
@@ -69,12 +94,9 @@ public final class LanguageTest {
                 CHECK.fail(m.getName() + " can be seen from the package");
             }
         }
-        int constants = 0;
         for (Field f : PigeonMail.class.getDeclaredFields()) {
-            constants += Modifier.isPublic(f.getModifiers()) ? 1 : 0;
             field(f);
         }
-        CHECK.due("public constants", constants, 5);
         CHECK.due("classes inside, twelve at most",
                 Math.max(12, PigeonMail.class.getDeclaredClasses().length), 12);
     }
@@ -101,6 +123,8 @@ public final class LanguageTest {
                 }
             }
         }
+        int seenFrom = inner.getModifiers() & (Modifier.PUBLIC | Modifier.PROTECTED);
+        CHECK.due("private or seen from the package alone: " + inner, seenFrom, 0);
     }
 
     private static void source() throws Exception {
@@ -123,22 +147,74 @@ public final class LanguageTest {
             }
         }
         lengths(text.split("\n"));
+        depths(code.split("\n"));
+    }
+
+    private static boolean isHead(String line) {
+        return line.matches("( {4}| {8})[a-zA-Z].*\\) \\{") && !line.trim().matches("(if|for|while|switch) .*");
+    }
+
+    /** How many lines a method has whose head is this line. */
+    private static int lengthFrom(String[] lines, int head) {
+        String end = lines[head].substring(0, lines[head].length() - lines[head].trim().length()) + "}";
+        int length = 1;
+        while (head + length < lines.length && !lines[head + length].equals(end)) {
+            length++;
+        }
+        return length;
     }
 
     private static void lengths(String[] lines) {
         int methods = 0;
         for (int i = 0; i < lines.length; i++) {
-            boolean head = lines[i].matches("( {4}| {8})[a-zA-Z].*\\) \\{");
-            if (head && !lines[i].trim().matches("(if|for|while|switch) .*")) {
-                String end = lines[i].substring(0, lines[i].length() - lines[i].trim().length()) + "}";
-                int length = 1;
-                while (i + length < lines.length && !lines[i + length].equals(end)) {
-                    length++;
-                }
+            if (isHead(lines[i])) {
+                int length = lengthFrom(lines, i);
                 CHECK.due("sixty lines at most: " + lines[i].trim(), Math.max(60, length), 60);
                 methods++;
             }
         }
         CHECK.due("methods are found, fifty at least", Math.min(50, methods), 50);
+    }
+
+    /** Methods of one name are taken for one, so that a chain may seem longer here than it is, never shorter. */
+    private static void depths(String[] lines) {
+        Pattern call = Pattern.compile("\\b(\\w+)\\(");
+        Map<String, Set<String>> calls = new HashMap<>();
+        for (int i = 0; i < lines.length; i++) {
+            if (isHead(lines[i])) {
+                Matcher head = call.matcher(lines[i]);
+                String name = head.find() ? head.group(1) : "";
+                Set<String> called = calls.computeIfAbsent(name, n -> new HashSet<>());
+                for (int k = i + 1; k < i + lengthFrom(lines, i); k++) {
+                    Matcher m = call.matcher(lines[k]);
+                    while (m.find()) {
+                        called.add(m.group(1));
+                    }
+                }
+            }
+        }
+        int deepest = 0;
+        for (String name : calls.keySet()) {
+            deepest = Math.max(deepest, depth(calls, name, new ArrayList<>()));
+        }
+        CHECK.due("deep at most, " + DEEPEST, Math.max(DEEPEST, deepest), DEEPEST);
+        CHECK.due("chains are found", Math.min(5, deepest), 5);
+    }
+
+    private static int depth(Map<String, Set<String>> calls, String name, List<String> open) {
+        if (!calls.containsKey(name)) {
+            return 0;
+        }
+        if (open.contains(name)) {
+            CHECK.fail("recursion: " + open + " and " + name);
+            return 0;
+        }
+        open.add(name);
+        int deepest = 0;
+        for (String next : calls.get(name)) {
+            deepest = Math.max(deepest, depth(calls, next, open));
+        }
+        open.remove(open.size() - 1);
+        return deepest + 1;
     }
 }

@@ -1,15 +1,22 @@
 import java.util.Random;
+import java.util.Set;
+import java.util.TreeSet;
 
-/** Runs of calls by chance on an object and on the model, whose answers are to be the same; and wild arguments. */
+/**
+ * Runs of calls by chance on an object and on the model, whose answers are to be the same; and wild arguments.
+ * Each run is of just the 512 calls for which an object is used, and each of its answers is compared.
+ */
 public final class ModelTest {
     private static final Check CHECK = new Check("ModelTest");
-    private static final int RUNS = 3000, CALLS = 480;
+    private static final int RUNS = 3000, CALLS = 512, CALLS_OF_THE_FACE = 29;
 
     private final Random random;
     private final PigeonMail x = new PigeonMail();
     private final Model y = new Model();
+    private final Set<String> called = new TreeSet<>();
     private final boolean wild;
     private final int run;
+    private int calls;
 
     private ModelTest(int run, boolean wild) {
         this.run = run;
@@ -18,25 +25,30 @@ public final class ModelTest {
     }
 
     public static void main(String[] args) {
+        int whole = 0;
         for (int run = 0; run < RUNS && CHECK.wrong() < 20; run++) {
-            new ModelTest(run, run % 5 == 0).go();
+            ModelTest test = new ModelTest(run, run % 5 == 0);
+            test.go();
+            CHECK.due("calls of run " + run, test.calls, CALLS);
+            whole += test.called.size() == CALLS_OF_THE_FACE ? 1 : 0;
         }
+        CHECK.due("runs in which each call of the face is made, a hundred at least", Math.min(100, whole), 100);
         CHECK.end();
     }
 
     private void go() {
-        int calls = 0;
         if (run % 7 != 0) {
-            calls += text(goodText());
-            due("room()", x.room(), y.room());
+            roomOf(goodText());
         }
-        for (; calls < CALLS; calls++) {
+        while (calls < CALLS) {
             call();
         }
     }
 
     private void due(String call, long got, long want) {
-        CHECK.due("run " + run + ": " + call, got, want);
+        calls++;
+        called.add(call.substring(0, call.indexOf('(')));
+        CHECK.due("run " + run + ", call " + calls + ": " + call, got, want);
     }
 
     private int some(int below) {
@@ -47,13 +59,17 @@ public final class ModelTest {
         return random.nextInt(40) == 0 ? random.nextInt(below + 4) - 2 : random.nextInt(below);
     }
 
-    private int text(String text) {
+    /** Makes the text the room, if the run has as many calls left. */
+    private void roomOf(String text) {
+        if (calls + text.length() + 3 > CALLS) {
+            return;
+        }
         due("wipe()", x.wipe(), y.wipe());
         for (int i = 0; i < text.length(); i++) {
             due("write(" + (int) text.charAt(i) + ")", x.write(text.charAt(i)), y.write(text.charAt(i)));
         }
         due("fault() of " + text, x.fault(), y.fault());
-        return text.length() + 3;
+        due("room()", x.room(), y.room());
     }
 
     /** A room that is full of things, in few holes, so that much happens. */
@@ -126,8 +142,7 @@ public final class ModelTest {
             int s = some(2);
             due("again(" + s + ")", x.again(s), y.again(s));
         } else if (random.nextInt(4) == 0) {
-            text(random.nextBoolean() ? goodText() : spoilt());
-            due("room()", x.room(), y.room());
+            roomOf(random.nextBoolean() ? goodText() : spoilt());
         } else if (random.nextInt(4) == 0) {
             due("room()", x.room(), y.room());
         } else {

@@ -8,6 +8,9 @@ public final class SpaceTest {
 
     private static final String TEXT = "M9Le11Le33Li21Li33Lj12La93C11C21C01";
 
+    /** So often all calls can be made on one object: each time has some 66 of its 512 calls. */
+    private static final int TIMES = 7, OBJECTS = 150;
+
     private static PigeonMail last;
 
     public static void main(String[] args) {
@@ -15,12 +18,18 @@ public final class SpaceTest {
             System.out.println("SpaceTest: this machine does not tell");
             return;
         }
-        PigeonMail x = new PigeonMail();
-        callAll(x, 2);
+        callAll(new PigeonMail(), TIMES);
+        PigeonMail[] objects = new PigeonMail[OBJECTS];
+        for (int i = 0; i < OBJECTS; i++) {
+            objects[i] = new PigeonMail();
+        }
+        int sum = 0;
         long before = allocated();
-        int sum = callAll(x, 1000);
+        for (PigeonMail x : objects) {
+            sum += callAll(x, TIMES);
+        }
         long bytes = allocated() - before;
-        CHECK.due("bytes made by 67000 calls, 20000 at most (sum " + (sum == 0 ? 0 : 1) + ")",
+        CHECK.due("bytes made by 69000 calls, 20000 at most (sum " + (sum == 0 ? 0 : 1) + ")",
                 Math.max(20000, bytes), 20000);
         before = allocated();
         for (int i = 0; i < 1000; i++) {

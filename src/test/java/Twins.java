@@ -15,6 +15,10 @@ final class Twins {
     }
 
     private static final int LETTERS = 6, CLERKS = 3, HOLES = 12, ACTS = 14;
+    private static final int ASKED_OF_LETTER = 8, ASKED_OF_CLERK = 6, ASKED_OF_ALL = 12, ASKED_LAST = 9;
+    /** So many calls are made by asking all; the last but so many is rows(true). */
+    static final int ASKED = ASKED_OF_ALL + LETTERS * ASKED_OF_LETTER + CLERKS * ASKED_OF_CLERK + HOLES + ASKED_LAST,
+            ROWS_FROM_LAST = ASKED_LAST;
 
     private Twins() {
     }
@@ -51,7 +55,14 @@ final class Twins {
         return all;
     }
 
-    /** All that can be asked with nothing changed. */
+    /** What asking all answers; the last call makes the seed 1. */
+    static List<Long> asked(PigeonMail x) {
+        List<Long> all = new ArrayList<>();
+        ask(x, all);
+        return all;
+    }
+
+    /** All that can be asked with nothing changed, and the seed last, which is 1 then. */
     private static void ask(PigeonMail x, List<Long> all) {
         for (int what = 0; what <= 11; what++) {
             all.add((long) x.about(what));
