@@ -5,8 +5,9 @@ import java.util.Deque;
 import java.util.List;
 
 /**
- * An object is used for 512 calls: runs of just so many on one object, each answer of which is compared with one that
- * is reckoned here by itself. ModelTest has such runs of all calls mixed.
+ * An object is used for 512 calls: runs of just so many on one object. In eight of them each answer is compared with
+ * one that is reckoned here by itself; one asks the same again and again, and one compares an object behind long use
+ * with a new one. ModelTest has such runs of all calls mixed.
  */
 public final class FullRunTest {
     private static final Check CHECK = new Check("FullRunTest");
